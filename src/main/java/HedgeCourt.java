@@ -333,7 +333,7 @@ public final class HedgeCourt {
         }
     }
 
-    /** Reads the tape from its first byte on, so that the fault it stops at is the first by its place. */
+    /** Reads the tape from its first byte on, so that the first fault met is the first by its place. */
     private static final class LawReader {
         private static final int CANT_STAND = 1;
         private static final int OUT_OF_RANGE = 2;
@@ -380,60 +380,44 @@ public final class HedgeCourt {
 
         private void readLine(Law draft) {
             int verb = token == KEYWORD ? tokenValue : NONE;
-            if (verb < WEIGH) {
-                complain(CANT_STAND);
-                return;
-            }
-            if (lines >= MOST_LINES) {
-                complain(TOO_MANY);
-                return;
-            }
+            demand(verb >= WEIGH, CANT_STAND);
+            demand(lines < MOST_LINES, TOO_MANY);
             advance();
-            int kind = verb == WEIGH || verb == NEWER ? takeKind() : NONE;
-            int number = verb != NEWER ? takeNumber(verb) : NONE;
-            takeSemicolon();
+            int kind = NONE;
+            int number = NONE;
+            if (verb == WEIGH || verb == NEWER) {
+                kind = kindHere();
+                advance();
+            }
+            if (verb != NEWER) {
+                number = numberHere(verb);
+                advance();
+            }
+            demand(token == SEMICOLON, CANT_STAND);
+            advance();
             if (fault == 0) {
                 lines++;
                 enact(draft, verb, kind, number);
             }
         }
 
-        private int takeKind() {
-            int kind = tokenValue;
-            if (token != KEYWORD || kind >= KINDS) {
-                complain(CANT_STAND);
-                return NONE;
-            }
-            advance();
-            return kind;
+        private int kindHere() {
+            demand(token == KEYWORD && tokenValue < KINDS, CANT_STAND);
+            return tokenValue;
         }
 
-        private int takeNumber(int verb) {
-            if (fault != 0) {
-                return NONE;
-            }
-            int number = tokenValue;
-            if (token != NUMBER) {
-                complain(CANT_STAND);
-                return NONE;
-            }
-            if (!fits(verb, number)) {
-                complain(OUT_OF_RANGE);
-                return NONE;
-            }
-            advance();
-            return number;
+        private int numberHere(int verb) {
+            demand(token == NUMBER, CANT_STAND);
+            demand(fits(verb, tokenValue), OUT_OF_RANGE);
+            return tokenValue;
         }
 
-        private void takeSemicolon() {
-            if (fault != 0) {
-                return;
+        // Tokens come by their places, so what was found before stays the fault.
+        private void demand(boolean holds, int otherwise) {
+            if (!holds && fault == 0) {
+                fault = otherwise;
+                faultPlace = tokenPlace;
             }
-            if (token != SEMICOLON) {
-                complain(CANT_STAND);
-                return;
-            }
-            advance();
         }
 
         private static boolean fits(int verb, int number) {
@@ -457,11 +441,6 @@ public final class HedgeCourt {
             } else if (verb == BEND) {
                 draft.bend = number;
             }
-        }
-
-        private void complain(int what) {
-            fault = what;
-            faultPlace = tokenPlace;
         }
 
         private void advance() {

@@ -180,6 +180,10 @@ public final class PromiseTest {
         for (int i = 0; i < at.length; i++) {
             due("look(" + at[i] + ") of an empty law", x.look(at[i]), first[i]);
         }
+        law(x, "");
+        for (int i = 0; i < at.length; i++) {
+            due("look(" + at[i] + ") of a second empty law", x.look(at[i]), first[i]);
+        }
         due("feed behind rules()", x.feed(0, 0, 0, 0, 0), 20);
     }
 
@@ -218,7 +222,20 @@ public final class PromiseTest {
         dueFault("bends 1;", 1, 0);
         dueFault("ben 1;", 1, 0);
         dueFault("Bend 1;", 1, 0);
-        dueFault("bendX 1;", 1, 0);
+        for (String letter : new String[] {"a", "z", "A", "Z"}) {
+            dueFault("bend" + letter + " 1;", 1, 0);
+        }
+        for (String sign : new String[] {"@", "[", "`", "{", "/", ":", "_"}) {
+            dueFault("bend" + sign + " 1;", 1, 4);
+        }
+        dueFault("weigh weigh 3;", 1, 6);
+        dueFault("weigh 100 3;", 1, 6);
+        dueFault("newer weigh;", 1, 6);
+        dueFault("newer throw;", 1, 6);
+        dueFault("z".repeat(400), 1, 0);
+        dueFault("9".repeat(400), 1, 0);
+        dueFault("bend 1" + " ".repeat(394), 1, 400);
+        dueFault("bend 1;" + " ".repeat(388) + "hold ", 1, 400);
         dueFault("bend 1;;", 1, 7);
         dueFault("bend\t1;", 1, 4);
         dueFault("bend\r1;", 1, 4);
@@ -244,6 +261,19 @@ public final class PromiseTest {
         x.rules();
         due("fault(0) of the latest", x.fault(0), 0);
         due("fault(1) of the latest", x.fault(1), -1);
+        // What end() took away is no more of the text, though it stood behind it.
+        dueCutFault("bend 12;", 6, 1, 6);
+        dueCutFault("bend 1;bends", 11, 1, 11);
+        dueCutFault("bend 1;", 6, 1, 6);
+    }
+
+    private static void dueCutFault(String text, int length, int fault, int place) {
+        HedgeCourt x = new HedgeCourt();
+        put(x, text.getBytes(StandardCharsets.ISO_8859_1));
+        x.end(length);
+        due("rules of '" + text + "' cut", x.rules(), -1);
+        due("fault(0) of '" + text + "' cut", x.fault(0), fault);
+        due("fault(1) of '" + text + "' cut", x.fault(1), place);
     }
 
     private static void look() {
@@ -294,6 +324,14 @@ public final class PromiseTest {
         due("said(4, 2)", x.said(4, 2), 79);
         law(x, "newer post;weigh post 0;");
         dueSaid(x, plain);
+        HedgeCourt y = new HedgeCourt();
+        law(y, "newer word;");
+        y.say(4, 3, 4, 1, 1, 9, 0);
+        y.say(4, 4, 5, 1, 1, 8, 0);
+        y.say(0, 4, 5, 1, 1, 99, 0);
+        due("said(0, 4) of the newest, said first", y.said(0, 4), 24);
+        due("said(1, 4) of an older one", y.said(1, 4), 32);
+        due("said(2, 4) of another kind", y.said(2, 4), 48);
         int[][] none = {{0, -1}, {0, 5}, {5, 0}, {12, 0}, {LEAST, 0}, {MOST, 4}, {0, LEAST}, {0, MOST}};
         for (int[] n : none) {
             due("said(" + n[0] + ", " + n[1] + ")", x.said(n[0], n[1]), -1);
@@ -463,6 +501,8 @@ public final class PromiseTest {
         dueSpells(x, 0, 0, 0, -1, 40);
         x.mow(0, 0, 0, 60, 11);
         dueSpells(x, 0, 2, 0, 12, 50);
+        due("spells(0, 3) of a line that moved", x.spells(0, 3), -1);
+        due("spells(0, -1) of a line that moved", x.spells(0, -1), -1);
         dueSpells(x, 1, 0, 0, -1, 40);
         x.mow(0, 1, 1, 40, 11);
         dueSpells(x, 1, 0, 0, -1, 40);
@@ -486,6 +526,9 @@ public final class PromiseTest {
         dueSpells(x, 2, 2, 2, 998, 10);
         law(x, "");
         dueSpells(x, 0, 0, 0, -1, 40);
+        HedgeCourt z = court("hold 1;");
+        z.mow(0, 9, 9, 79, 0);
+        dueSpells(z, 9, 1, 0, 0, 79);
         HedgeCourt y = court("hold 60;");
         for (int i = 0; i < 60; i++) {
             dueSpells(y, 5, 0, 0, -1, 40);
@@ -503,7 +546,10 @@ public final class PromiseTest {
         due("line(10)", x.line(10), -1);
         due("line(LEAST)", x.line(LEAST), -1);
         due("line(MOST)", x.line(MOST), -1);
+        due("line(0)", x.line(0), 40);
         x.mow(1, 0, 0, 30, 5);
+        due("line(0)", x.line(0), 30);
+        due("line(1)", x.line(1), 40);
         x.mow(0, 0, 0, 50, 5);
         dueSpells(x, 0, 1, 1, 5, 30);
         x.mow(0, 0, 0, 41, 6);

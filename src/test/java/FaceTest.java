@@ -18,12 +18,10 @@ public final class FaceTest {
         "int said(int,int)", "int say(int,int,int,int,int,int,int)", "int spells(int,int)", "int split(int)",
         "int straight(int)",
     };
-    private static int wrong = 0;
 
     private static void must(boolean holds, String what) {
         if (!holds) {
-            wrong++;
-            System.out.println("does not hold: " + what);
+            Check.fail("does not hold: " + what);
         }
     }
 
@@ -101,11 +99,10 @@ public final class FaceTest {
     }
 
     public static void main(String[] args) throws Exception {
+        Check.about("the face");
         face();
+        Check.about("the source");
         source();
-        System.out.println(wrong == 0 ? "the face is the document's" : wrong + " do not hold");
-        if (wrong != 0) {
-            System.exit(1);
-        }
+        Check.finish("the face is the document's");
     }
 }

@@ -40,6 +40,12 @@ public final class QuarrelBoundsTest {
         Check.dueSplits(quarrel(41, 40, 99, 99, 49, 49, 99, 98), 0, -1, -1, -1);
         Check.dueSplits(quarrel(41, 40, 99, 99, 50, 49, 99, 98), 1, 40, 40, 40);
         Check.dueSplits(quarrel(41, 40, 99, 99, 49, 50, 99, 98), 1, 41, 41, 41);
+        // One part of p + q less than hoped for is not enough, one more is.
+        Check.dueSplits(quarrel(41, 40, 1, 1, 0, 0, 1, 1), 0, -1, -1, -1);
+        Check.dueSplits(quarrel(41, 40, 2, 0, 1, 0, 99, 98), 1, 41, 41, 41);
+        Check.dueSplits(quarrel(41, 40, 0, 2, 0, 1, 98, 99), 1, 40, 40, 40);
+        Check.dueSplits(quarrel(41, 40, 2, 0, 1, 0, 98, 99), 2, 40, 41, 40);
+        Check.dueSplits(quarrel(41, 40, 0, 2, 0, 1, 99, 98), 2, 40, 41, 40);
         Check.about("Terms: the greatest lesser gain of both: by less than a whole");
         Check.dueSplits(quarrel(41, 40, 99, 99, 50, 50, 99, 98), 2, 40, 41, 41);
         Check.dueSplits(quarrel(41, 40, 99, 99, 50, 50, 98, 99), 2, 40, 41, 40);

@@ -421,6 +421,16 @@ public final class RefusedTest {
         Check.due("feed", x.feed(0, 0, 0, 0, 0), 20);
     }
 
+    private static void lastCalls() {
+        Check.about("What it is: at most 512 calls after it has been made");
+        HedgeCourt x = new HedgeCourt();
+        for (int i = 1; i <= 170; i++) {
+            Check.due("law " + i, Check.law(x, "bend " + i % 10 + ";"), 1);
+        }
+        Check.due("the 511th call, look(3)", x.look(3), 0);
+        Check.due("the 512th call, say", x.say(5, 0, 9, 0, 79, 999, 1), 0);
+    }
+
     public static void main(String[] args) {
         for (Scene scene : SCENES) {
             STATES.add(Answers.of(scene.maker));
@@ -437,6 +447,7 @@ public final class RefusedTest {
         quarrels();
         questionsAtTheirEnds();
         questionsDoNothing();
+        lastCalls();
         Check.finish("what can't be is refused, and nothing is done");
     }
 }

@@ -105,18 +105,23 @@ public final class GroundBoundsTest {
 
     private static void longestHold() {
         Check.about("Terms: hold YEARS one behind the other: as many as can be told, and more");
-        int[][] want = {{58, 3, 57}, {59, 2, 58}, {60, 1, 59}, {61, 0, -1}, {98, 0, -1}, {99, 0, -1}};
+        int[][] want = {{58, 3}, {59, 2}, {60, 1}, {61, 0}, {98, 0}, {99, 0}};
         for (int[] w : want) {
-            for (int n = 0; n < 2; n++) {
-                HedgeCourt x = court(40, "hold " + w[0] + ";");
-                // Told from the last year back, for the order of telling says nothing.
-                for (int year = 59; year >= 0; year--) {
-                    x.mow(n, 5, 5, n == 0 ? 41 : 39, year);
-                }
-                int line = w[1] == 0 ? 40 : n == 0 ? 41 : 39;
-                Check.dueSpells(x, 5, n == 0 ? w[1] : 0, n == 1 ? w[1] : 0, w[2], line);
+            for (int first : new int[] {0, 1, 500, 940}) {
+                allYears(first, 0, w[0], w[1]);
+                allYears(first, 1, w[0], w[1]);
             }
         }
+    }
+
+    /** Sixty years on end, told from the last one back, for the order of telling says nothing. */
+    private static void allYears(int first, int n, int hold, int won) {
+        HedgeCourt x = court(40, "hold " + hold + ";");
+        int foot = n == 0 ? 41 : 39;
+        for (int year = first + 59; year >= first; year--) {
+            Check.due("mow in " + year, x.mow(n, 5, 5, foot, year), true);
+        }
+        dueWon(x, n, won, first + hold - 1, foot);
     }
 
     private static void gaps() {

@@ -587,15 +587,16 @@ public final class HedgeCourt {
 
         private static int cheapest(int[] row, int former, int bend) {
             int best = 0;
-            int bestCost = Integer.MAX_VALUE;
-            for (int f = 0; f < FEET; f++) {
-                int price = row[f] + bend * Math.abs(f - former);
-                if (price < bestCost) {
+            for (int f = 1; f < FEET; f++) {
+                if (priceOf(row, f, former, bend) < priceOf(row, best, former, bend)) {
                     best = f;
-                    bestCost = price;
                 }
             }
             return best;
+        }
+
+        private static int priceOf(int[] row, int f, int former, int bend) {
+            return row[f] + bend * Math.abs(f - former);
         }
     }
 

